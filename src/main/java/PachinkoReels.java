@@ -65,7 +65,7 @@ public final class PachinkoReels {
     private static final int MOST_CHARACTERS = 60;
 
     private static final long FIRST_HASH = 3677L;
-    private static final double TWO_TO_52 = 4503599627370496.0;
+    private static final long TWO_TO_52 = 1L << 52;
 
     private final Board board = new Board();
     private final Board tried = new Board();
@@ -437,7 +437,7 @@ public final class PachinkoReels {
             part = part * 2.0;
             exponent--;
         }
-        return (exponent << 52) + (long) ((part - 1.0) * TWO_TO_52);
+        return exponent * TWO_TO_52 + (long) ((part - 1.0) * (double) TWO_TO_52);
     }
 
     // A step that would leave the board is not made.

@@ -351,6 +351,7 @@ public final class BallsTest {
         CHECK.due("9: as far as balls are in the hand", reels.play(6, 30), 0);
         CHECK.due("22: two more launches", reels.count(2), 32);
         CHECK.due("22: empty hand", reels.count(0), 0);
+        CHECK.due("9: a pocket that is shut pays nothing", playedAtShutPockets(), 0);
         CHECK.due("9: undone as one call", undone(reels), 30);
         CHECK.due("9: one ball", reels.play(6, 1), 0);
         CHECK.due("22: one launch", reels.count(2), 31);
@@ -361,6 +362,12 @@ public final class BallsTest {
         for (int balls : new int[] {0, 31, -1, Integer.MIN_VALUE, Integer.MAX_VALUE}) {
             CHECK.throwing("9: balls", reels, Check.ARGUMENT, () -> reels.play(3, balls));
         }
+    }
+
+    private static long playedAtShutPockets() {
+        PachinkoReels reels = Lay.channels(1, 2);
+        reels.buy(9);
+        return reels.play(2, 4) + reels.play(1, 1);
     }
 
     private static long undone(PachinkoReels reels) {

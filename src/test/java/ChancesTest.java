@@ -142,19 +142,52 @@ public final class ChancesTest {
 
     private static void bestByAllWays() {
         roundedDown();
+        waysToEachPocketCount();
     }
 
-    /** 41 of 140 ways from 2 are more than those from 0, but not when rounded down. */
+    /** With the pocket 0 alone paying 1, the best by its ways there, times 1000, divided by all. */
     private static void roundedDown() {
-        PachinkoReels reels = new PachinkoReels();
-        payNothing(reels);
-        reels.pocket(0, 0, 1);
-        reels.bend(7, 3, 1);
-        reels.bend(5, 1, -1);
-        reels.bend(1, 3, -1);
+        // 60 of 205 from 0 and 41 of 140 from 2 are both 292, from 0 it is the lowest
+        PachinkoReels reels = payingAtTheLeft("b73>;b51<;b13<");
         dueMeasure(reels, 0, 60, 205);
         dueMeasure(reels, 2, 41, 140);
         CHECK.due("26: equal when rounded down", reels.bestColumn(), 0);
+        // 286 and 287; times 1001 they were equal
+        PachinkoReels above = payingAtTheLeft("b13<;b64<");
+        dueMeasure(above, 0, 70, 244);
+        dueMeasure(above, 2, 50, 174);
+        CHECK.due("26: one apart", above.bestColumn(), 2);
+        // both 141; times 999 they were 140 and 141
+        PachinkoReels below = payingAtTheLeft("b71>;b20>;b13>;b66>");
+        dueMeasure(below, 0, 23, 163);
+        dueMeasure(below, 1, 29, 205);
+        CHECK.due("26: equal again", below.bestColumn(), 0);
+        // 174 and 179; times 100 they were equal
+        PachinkoReels coarse = payingAtTheLeft("b06<;b71>;b52<");
+        dueMeasure(coarse, 0, 35, 201);
+        dueMeasure(coarse, 1, 35, 195);
+        CHECK.due("26: times 1000", coarse.bestColumn(), 1);
+    }
+
+    private static PachinkoReels payingAtTheLeft(String bends) {
+        PachinkoReels reels = Lay.write(new PachinkoReels(), bends);
+        reels.work();
+        payNothing(reels);
+        reels.pocket(0, 0, 1);
+        return reels;
+    }
+
+    private static void waysToEachPocketCount() {
+        PachinkoReels left = Lay.channels(0, 3);
+        payNothing(left);
+        left.pocket(0, 0, 5);
+        left.pocket(3, 0, 4);
+        CHECK.due("26: the pocket 0", left.bestColumn(), 0);
+        PachinkoReels right = Lay.channels(3, 6);
+        payNothing(right);
+        right.pocket(6, 0, 5);
+        right.pocket(3, 0, 4);
+        CHECK.due("26: the pocket 6", right.bestColumn(), 6);
     }
 
     private static void dueMeasure(PachinkoReels reels, int column, int there, int all) {
