@@ -321,9 +321,10 @@ public final class PachinkoReels {
     private int doPart(int from, int end) {
         switch (text.codeAt(from)) {
             case 'l':
-                return board.launchBalls(text.digitAt(from + 1), text.numberIn(from + 3, end));
+                int launchColumn = text.digitBelow(COLUMNS, from + 1);
+                return board.launchBalls(launchColumn, text.numberIn(from + 3, end));
             case 'b':
-                int pin = text.digitAt(from + 1) * COLUMNS + text.digitAt(from + 2);
+                int pin = text.digitBelow(ROWS, from + 1) * COLUMNS + text.digitBelow(COLUMNS, from + 2);
                 board.bendPin(pin, text.bendAt(from + 3));
                 return 0;
             default:
@@ -860,15 +861,15 @@ public final class PachinkoReels {
             return place == length || codeAt(place) == ';';
         }
 
-        int digitAt(int place) {
-            int code = codeAt(place);
-            return code >= '0' && code <= '9' ? code - '0' : 0;
+        int digitBelow(int limit, int place) {
+            int digit = codeAt(place) - '0';
+            return digit >= 0 && digit < limit ? digit : 0;
         }
 
         int numberIn(int from, int end) {
             int number = 0;
             for (int place = from; place < end; place++) {
-                number = 10 * number + digitAt(place);
+                number = 10 * number + digitBelow(10, place);
             }
             return number;
         }

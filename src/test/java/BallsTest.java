@@ -172,7 +172,7 @@ public final class BallsTest {
     }
 
     private static void atMostFourWait() {
-        PachinkoReels reels = withReelsHeld(10, 0);
+        PachinkoReels reels = Lay.held(10, 0);
         for (int launch = 0; launch < 6; launch++) {
             reels.launch(3);
             CHECK.due("22: spins that wait", reels.count(6), Math.min(4, launch + 2));
@@ -213,20 +213,8 @@ public final class BallsTest {
         CHECK.due("21: reel 2", reels.reel(2), third);
     }
 
-    /** A board on which reel pockets are just held open by a ball that came to pocket 3. */
-    private static PachinkoReels withReelsHeld(int held, int streak) {
-        PachinkoReels reels = Lay.channels(0, 1, 2, 3, 4);
-        reels.buy(99);
-        reels.set(0, held);
-        reels.set(1, streak);
-        reels.launch(3);
-        reels.shuffle(Lay.xFor(8, 7, 7, 7));
-        reels.launch(3);
-        return reels;
-    }
-
     private static void jackpots() {
-        PachinkoReels reels = withReelsHeld(6, 8);
+        PachinkoReels reels = Lay.held(6, 8);
         dueSigns(reels, 7, 7, 7);
         CHECK.due("22: spins", reels.count(7), 1);
         CHECK.due("22: jackpots", reels.count(8), 1);
@@ -239,7 +227,7 @@ public final class BallsTest {
     }
 
     private static void streaks() {
-        PachinkoReels reels = withReelsHeld(1, 2);
+        PachinkoReels reels = Lay.held(1, 2);
         reels.launch(2);
         CHECK.due("22: shut behind one ball", reels.count(9), 0);
         CHECK.due("22: streak", reels.count(10), 2);
@@ -260,7 +248,7 @@ public final class BallsTest {
     }
 
     private static void streakAnew() {
-        PachinkoReels reels = withReelsHeld(1, 3);
+        PachinkoReels reels = Lay.held(1, 3);
         reels.launch(2);
         reels.shuffle(Lay.xFor(8, 4, 6, 7));
         reels.launch(3);
@@ -280,7 +268,7 @@ public final class BallsTest {
     }
 
     private static void noStreak() {
-        PachinkoReels reels = withReelsHeld(1, 0);
+        PachinkoReels reels = Lay.held(1, 0);
         CHECK.due("22: no streak", reels.count(10), 0);
         reels.launch(2);
         reels.shuffle(Lay.xFor(8, 4, 6, 7));
@@ -289,7 +277,7 @@ public final class BallsTest {
     }
 
     private static void heldBalls() {
-        PachinkoReels reels = withReelsHeld(3, 0);
+        PachinkoReels reels = Lay.held(3, 0);
         reels.launch(2);
         CHECK.due("22: one less", reels.count(9), 2);
         CHECK.due("20: paid", reels.pocketOf(2, 4), 10);
@@ -331,7 +319,7 @@ public final class BallsTest {
     }
 
     private static void settingsAreTakenByTheSpin() {
-        PachinkoReels reels = withReelsHeld(6, 8);
+        PachinkoReels reels = Lay.held(6, 8);
         reels.set(0, 2);
         reels.set(1, 3);
         CHECK.due("5: what is held stays", reels.count(9), 6);
@@ -376,7 +364,7 @@ public final class BallsTest {
     }
 
     private static void looks() {
-        PachinkoReels reels = withReelsHeld(6, 8);
+        PachinkoReels reels = Lay.held(6, 8);
         for (int pocket : new int[] {-1, 7, Integer.MIN_VALUE, Integer.MAX_VALUE}) {
             CHECK.throwing("20: no such pocket", reels, Check.INDEX, () -> reels.pocketOf(pocket, 0));
             CHECK.throwing("20: pocket first", reels, Check.INDEX, () -> reels.pocketOf(pocket, 5));

@@ -25,11 +25,70 @@ final class Lay {
         return reels;
     }
 
+    /** Channels, and one ball in the hand. */
+    static PachinkoReels oneBall(int... columns) {
+        PachinkoReels reels = channels(columns);
+        reels.buy(1);
+        return reels;
+    }
+
+    /** A board on which reel pockets are just held open, by a launch at the column 3; one spin waits. */
+    static PachinkoReels held(int balls, int streak) {
+        PachinkoReels reels = channels(0, 1, 2, 3, 4);
+        reels.buy(99);
+        reels.set(0, balls);
+        reels.set(1, streak);
+        reels.launch(3);
+        spin(reels, 7, 7, 7);
+        return reels;
+    }
+
+    /** A board without a streak on which reel pockets are shut, and 1 to 4 spins wait. */
+    static PachinkoReels waiting(int spins) {
+        PachinkoReels reels = held(1, 0);
+        for (int more = 1; more < spins; more++) {
+            reels.launch(3);
+        }
+        reels.launch(2);
+        return reels;
+    }
+
+    /** A launch at the column 3, at which the spin that waits draws these, as numbers below 8. */
+    static void spin(PachinkoReels reels, int... drawn) {
+        reels.shuffle(xFor(8, drawn));
+        reels.launch(3);
+    }
+
+    /** A board on which everything is at work: held reels, a streak, an open tulip, a snapshot, six saved states, half a text. */
+    static PachinkoReels busy() {
+        PachinkoReels reels = held(6, 8);
+        reels.launch(1);
+        reels.launch(2);
+        reels.keep();
+        reels.pocket(0, 2, 15);
+        reels.bend(7, 6, 1);
+        reels.launch(3);
+        reels.start(4);
+        reels.set(0, 3);
+        reels.play(6, 2);
+        reels.buy(1);
+        return write(reels, "$5;l3x");
+    }
+
     static PachinkoReels write(PachinkoReels reels, String text) {
         for (char c : text.toCharArray()) {
             reels.append(c);
         }
         return reels;
+    }
+
+    static PachinkoReels written(String text) {
+        return write(new PachinkoReels(), text);
+    }
+
+    /** Sixty characters. */
+    static PachinkoReels full() {
+        return written("$1;".repeat(20));
     }
 
     static long nextX(long x) {

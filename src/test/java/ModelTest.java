@@ -10,9 +10,11 @@ public final class ModelTest {
     };
     private static final int[] EXTREMES = {Integer.MIN_VALUE, -2, -1, 100, 127, Integer.MAX_VALUE};
     private static final String SIGNS = "l0x130;b76<|>$925";
+    private static final int MOST_CALLS = 512;
 
     private final Check check = new Check();
     private final Random random = new Random(20261119);
+    private int calls = 0;
 
     public static void main(String[] args) {
         ModelTest test = new ModelTest();
@@ -26,7 +28,9 @@ public final class ModelTest {
         PachinkoReels reels = new PachinkoReels();
         Model model = new Model();
         boolean straight = run % 3 == 0;
-        for (int step = 0; step < 400; step++) {
+        calls = 0;
+        // the calls of a text, and the last one, are left over
+        while (calls < MOST_CALLS - 63) {
             String call = CALLS[random.nextInt(CALLS.length)];
             if (call.equals("text")) {
                 write(reels, model, run);
@@ -39,6 +43,7 @@ public final class ModelTest {
     }
 
     private void compare(PachinkoReels reels, Model model, int run, String call, int[] v) {
+        calls++;
         String got = Check.answerOf(() -> Asked.answer(reels, call, v[0], v[1], v[2]));
         String want = Check.answerOf(() -> model.answer(call, v[0], v[1], v[2]));
         check.due("run " + run + ": " + call + " " + v[0] + " " + v[1] + " " + v[2], got, want);
@@ -102,7 +107,7 @@ public final class ModelTest {
         if (random.nextInt(4) == 0) {
             text.setCharAt(random.nextInt(text.length()), SIGNS.charAt(random.nextInt(SIGNS.length())));
         }
-        for (int i = 0; i < text.length(); i++) {
+        for (int i = 0; i < text.length() && i < 60; i++) {
             compare(reels, model, run, "append", new int[] {text.charAt(i), 0, 0});
         }
         compare(reels, model, run, "firstError", new int[3]);

@@ -80,7 +80,8 @@ public final class UndoTest {
         PachinkoReels reels = new PachinkoReels();
         List<Integer> due = new ArrayList<>();
         int now = 1;
-        for (int step = 0; step < 300; step++) {
+        // three calls a step, of the 512 for which an object is used
+        for (int step = 0; step < 160; step++) {
             if (step % 7 < 4 || due.isEmpty()) {
                 due.add(now);
                 now = 1000 + step;
