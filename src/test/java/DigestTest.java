@@ -45,21 +45,9 @@ public final class DigestTest {
             for (int launches = 1; launches <= 30; launches += 1 + launches / 4) {
                 int paid = pay;
                 int all = launches;
-                due(pay + " of " + launches, () -> paid(paid, all), "");
+                due(pay + " of " + launches, () -> Lay.paid(paid, all), "");
             }
         }
-    }
-
-    /** So many balls are paid in so many launches. */
-    private static PachinkoReels paid(int balls, int launches) {
-        PachinkoReels reels = Lay.channels(0, 3);
-        reels.buy(30);
-        reels.pocket(3, 0, balls);
-        reels.launch(3);
-        for (int launch = 1; launch < launches; launch++) {
-            reels.launch(0);
-        }
-        return reels;
     }
 
     private static void due(String what, Supplier<PachinkoReels> laid, String buffer) {

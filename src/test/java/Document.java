@@ -54,7 +54,7 @@ final class Document {
         for (String line : terms.substring(terms.indexOf("## Terms")).split("\n")) {
             addSentences(sentences, line);
         }
-        sentences.removeIf(sentence -> sentence.startsWith("Ahead of the calls"));
+        sentences.removeIf(sentence -> sentence.startsWith("Ahead of the calls") && !sentence.endsWith("nothing is changed."));
         return sentences;
     }
 

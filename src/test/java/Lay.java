@@ -75,6 +75,31 @@ final class Lay {
         return write(reels, "$5;l3x");
     }
 
+    /** All 56 pins bent, and the pocket 6 an open tulip that paid. */
+    static PachinkoReels lastOfAll() {
+        PachinkoReels reels = new PachinkoReels();
+        for (int pin = 55; pin >= 0; pin--) {
+            reels.bend(pin / 7, pin % 7, 1);
+        }
+        reels.pocket(6, 2, 4);
+        reels.start(6);
+        reels.buy(9);
+        reels.play(0, 3);
+        return reels;
+    }
+
+    /** So many balls are paid, by the first of so many launches. */
+    static PachinkoReels paid(int balls, int launches) {
+        PachinkoReels reels = channels(0, 3);
+        reels.buy(99);
+        reels.pocket(3, 0, balls);
+        reels.launch(3);
+        for (int launch = 1; launch < launches; launch++) {
+            reels.launch(0);
+        }
+        return reels;
+    }
+
     static PachinkoReels write(PachinkoReels reels, String text) {
         for (char c : text.toCharArray()) {
             reels.append(c);

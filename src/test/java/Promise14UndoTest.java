@@ -232,6 +232,16 @@ public final class Promise14UndoTest {
     }
 
     @Says("all, also x and what is counted so far")
+    static void all56BentPinsAndThePocket6ComeBack(Check check) {
+        check.undoable(Lay::lastOfAll, reels -> reels.bend(0, 0, 0));
+        // the first of the 56 becomes the last
+        check.undoable(Lay::lastOfAll, reels -> Lay.write(reels, "b76|;b76>").work());
+        check.undoable(Lay::lastOfAll, reels -> reels.launch(0));
+        check.undoable(Lay::lastOfAll, reels -> reels.play(0, 2));
+        check.undoable(Lay::lastOfAll, reels -> reels.pocket(6, 0, 1));
+    }
+
+    @Says("all, also x and what is counted so far")
     static void behindTheFirstLaunchThereIsNoLatestBallAgain(Check check) {
         PachinkoReels reels = new PachinkoReels();
         reels.buy(1);

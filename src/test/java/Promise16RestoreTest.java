@@ -57,6 +57,20 @@ public final class Promise16RestoreTest {
     }
 
     @Says("all, also x and what is counted so far")
+    static void all56BentPinsAndThePocket6ComeBack(Check check) {
+        PachinkoReels reels = Lay.lastOfAll();
+        reels.keep();
+        // the first of the 56 becomes the last
+        reels.bend(7, 6, 0);
+        reels.bend(7, 6, 1);
+        reels.launch(0);
+        reels.launch(0);
+        reels.pocket(6, 0, 1);
+        reels.restore();
+        check.dueSame("state", Told.state(reels), Told.state(Lay.lastOfAll()));
+    }
+
+    @Says("all, also x and what is counted so far")
     static void aSnapshotOfANewObjectHasNoLatestBall(Check check) {
         PachinkoReels reels = new PachinkoReels();
         reels.keep();
@@ -89,10 +103,11 @@ public final class Promise16RestoreTest {
     static void returnsTheHandOfTheSnapshotAndNotTheOneBefore(Check check) {
         PachinkoReels reels = Lay.oneBall(0);
         reels.buy(8);
+        reels.play(0, 2);
         reels.keep();
-        reels.play(0, 9);
-        check.due("hand", reels.restore(), 9);
-        check.due("count", reels.count(0), 9);
+        reels.play(0, 3);
+        check.due("nine less two", reels.restore(), 7);
+        check.due("count", reels.count(0), 7);
     }
 
     @Says("Undoable.")

@@ -60,6 +60,16 @@ public final class Promise17PinTest {
     }
 
     @Says("Tells how a pin is bent.")
+    static void itTellsHowThePinIsBentNow(Check check) {
+        PachinkoReels reels = new PachinkoReels();
+        reels.bend(7, 6, -1);
+        reels.undo();
+        check.due("behind undo", reels.pin(7, 6), 1);
+        Lay.write(reels, "b76>").work();
+        check.due("behind work", reels.pin(7, 6), 2);
+    }
+
+    @Says("nothing is changed")
     static void nothingIsChanged(Check check) {
         check.changesNothing(reels -> reels.pin(7, 6));
     }

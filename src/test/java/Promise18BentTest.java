@@ -147,6 +147,11 @@ public final class Promise18BentTest {
         dueBent(check, reels, 9, 55, 0);
     }
 
+    @Says("nothing is changed")
+    static void nothingIsChanged(Check check) {
+        check.changesNothing(reels -> reels.bent(0) + reels.bent(56));
+    }
+
     private static PachinkoReels threeBent() {
         PachinkoReels reels = new PachinkoReels();
         reels.bend(1, 2, 1);

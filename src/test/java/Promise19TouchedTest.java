@@ -90,4 +90,9 @@ public final class Promise19TouchedTest {
         reels.ifLaunched(0, 0);
         dueTouched(check, reels, 3, 4, 3, 4, 3, 4, 3, 4);
     }
+
+    @Says("nothing is changed")
+    static void nothingIsChanged(Check check) {
+        check.changesNothing(reels -> reels.touched(0) + reels.touched(7));
+    }
 }

@@ -43,6 +43,15 @@ public final class Promise20PocketOfTest {
         check.refusedOutside(0, 6, Check.INDEX, (reels, pocket) -> reels.pocketOf(pocket, -1));
     }
 
+    @Says("Returns the number.")
+    static void theNumbersComeBackWithUndo(Check check) {
+        PachinkoReels reels = Lay.oneBall(3);
+        reels.launch(3);
+        reels.undo();
+        check.due("came", reels.pocketOf(3, 3), 0);
+        check.due("paid", reels.pocketOf(3, 4), 0);
+    }
+
     @Says("0: its kind; 1: its pay;")
     static void kindsFrom0To2AndPaysFrom0To15(Check check) {
         for (int kind = 0; kind <= 2; kind++) {
@@ -103,13 +112,13 @@ public final class Promise20PocketOfTest {
         check.due("another", reels.pocketOf(2, 4), 0);
     }
 
-    @Says("Returns something of a pocket.")
+    @Says("nothing is changed")
     static void nothingIsChanged(Check check) {
         check.changesNothing(reels -> reels.pocketOf(1, 2));
         check.changesNothing(reels -> reels.pocketOf(6, 4));
     }
 
-    @Says("Returns the number.")
+    @Says("Returns something of a pocket.")
     static void numbersBehindThirtyLaunches(Check check) {
         PachinkoReels reels = Lay.oneBall(3);
         reels.pocket(3, 0, 15);

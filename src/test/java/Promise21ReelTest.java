@@ -48,7 +48,7 @@ public final class Promise21ReelTest {
         check.due("behind restore", reels.reel(1), 7);
     }
 
-    @Says("Returns the sign that a reel shows.")
+    @Says("nothing is changed")
     static void nothingIsChanged(Check check) {
         check.changesNothing(reels -> reels.reel(2));
     }

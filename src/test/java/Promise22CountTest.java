@@ -26,6 +26,14 @@ public final class Promise22CountTest {
         check.refusedOutside(0, 17, Check.ARGUMENT, (reels, what) -> reels.count(what));
     }
 
+    @Says("Returns a number.")
+    static void eachNumberOfANewBoard(Check check) {
+        int[] due = {0, 0, 0, 0, 0, 0, 0, 0, 0, 0, 0, -1, 3, 1, 6, 8, 0, 0};
+        for (int what = 0; what < 18; what++) {
+            check.due("count " + what, new PachinkoReels().count(what), due[what]);
+        }
+    }
+
     @Says("Returns the number.")
     static void eachNumberOfABoardReckonedByHand(Check check) {
         PachinkoReels reels = Lay.channels(0, 1, 2, 3, 4);
@@ -153,7 +161,7 @@ public final class Promise22CountTest {
         check.due("all", reels.count(16), 56);
     }
 
-    @Says("Returns a number.")
+    @Says("nothing is changed")
     static void nothingIsChanged(Check check) {
         check.changesNothing(reels -> reels.count(0) + reels.count(17));
     }

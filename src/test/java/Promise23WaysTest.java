@@ -28,7 +28,7 @@ public final class Promise23WaysTest {
         counted(check).aPocketOutside0To6IsRefused();
     }
 
-    @Says("where a straight pin has two ways on (which can lead to the same column, at the edge one of both stays)")
+    @Says("Counts the ways from a column to a pocket, row by row.")
     static void overStraightPinsThereAre256(Check check) {
         counted(check).overStraightPinsThereAre256();
     }
@@ -58,7 +58,7 @@ public final class Promise23WaysTest {
         counted(check).atABentPinAtTheEdgeTheOneWayStays();
     }
 
-    @Says("Counts the ways from a column to a pocket, row by row.")
+    @Says("nothing is changed")
     static void nothingIsChanged(Check check) {
         counted(check).nothingIsChanged();
     }

@@ -58,7 +58,7 @@ public final class Promise24WalkedTest {
         counted(check).atABentPinAtTheEdgeTheOneWayStays();
     }
 
-    @Says("Counts the same by going all ways.")
+    @Says("nothing is changed")
     static void nothingIsChanged(Check check) {
         counted(check).nothingIsChanged();
     }

@@ -139,7 +139,7 @@ public final class Promise25IfLaunchedTest {
         }
     }
 
-    @Says("Tells what a launch would bring, also without a ball in the hand.")
+    @Says("nothing is changed")
     static void nothingIsChanged(Check check) {
         check.changesNothing(reels -> reels.ifLaunched(1, 0));
         check.changesNothing(reels -> reels.ifLaunched(2, 3));

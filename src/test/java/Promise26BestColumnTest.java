@@ -158,7 +158,7 @@ public final class Promise26BestColumnTest {
         check.due("all ways", sum, all);
     }
 
-    @Says("Finds the column that pays most by its ways.")
+    @Says("nothing is changed")
     static void nothingIsChanged(Check check) {
         check.changesNothing(reels -> reels.bestColumn());
     }

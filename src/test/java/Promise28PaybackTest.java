@@ -24,7 +24,7 @@ public final class Promise28PaybackTest {
         check.due("0 of 1", reels.payback(), 0.0);
     }
 
-    @Says("Returns the balls paid so far, as a double, divided by the launches so far")
+    @Says("All numbers are integers, but for a share; divisions are rounded down.")
     static void itIsNotRoundedDown(Check check) {
         PachinkoReels reels = Lay.channels(0, 3);
         reels.buy(9);
@@ -39,7 +39,7 @@ public final class Promise28PaybackTest {
         check.due("6 of 5", reels.payback(), 1.2);
     }
 
-    @Says("Returns the balls paid so far, as a double, divided by the launches so far")
+    @Says("Returns how much came back.")
     static void itIsFrom0To15(Check check) {
         for (int pay = 0; pay <= 15; pay++) {
             PachinkoReels reels = Lay.oneBall(0);
@@ -57,7 +57,7 @@ public final class Promise28PaybackTest {
         check.due("2 of 1", reels.payback(), 2.0);
     }
 
-    @Says("Returns how much came back.")
+    @Says("nothing is changed")
     static void nothingIsChanged(Check check) {
         check.changesNothing(reels -> reels.payback() > 0.0 ? 1 : 0);
     }

@@ -89,20 +89,8 @@ public final class Promise29DigestTest {
     static void withAPaybackOf0AndBelow1AndOf1AndAbove(Check check) {
         int[][] shares = {{0, 1}, {1, 1}, {1, 2}, {1, 3}, {2, 3}, {1, 30}, {15, 1}, {15, 2}, {15, 7}, {14, 13}, {7, 29}};
         for (int[] share : shares) {
-            due(check, () -> paid(share[0], share[1]), "");
+            due(check, () -> Lay.paid(share[0], share[1]), "");
         }
-    }
-
-    /** So many balls are paid in so many launches. */
-    private static PachinkoReels paid(int balls, int launches) {
-        PachinkoReels reels = Lay.channels(0, 2);
-        reels.buy(99);
-        reels.pocket(2, 0, balls);
-        reels.launch(2);
-        for (int launch = 1; launch < launches; launch++) {
-            reels.launch(0);
-        }
-        return reels;
     }
 
     @Says("The values are: count(0) to count(17)")
@@ -135,7 +123,7 @@ public final class Promise29DigestTest {
         check.due("of a new object", hash, Reckoned.digest(new PachinkoReels(), ""));
     }
 
-    @Says("Computes a hash of the whole state.")
+    @Says("nothing is changed")
     static void nothingIsChanged(Check check) {
         check.changesNothing(reels -> reels.digest());
     }
