@@ -3,6 +3,7 @@ import java.io.UncheckedIOException;
 import java.nio.file.Files;
 import java.nio.file.Path;
 import java.util.ArrayList;
+import java.util.Arrays;
 import java.util.List;
 import java.util.regex.Matcher;
 import java.util.regex.Pattern;
@@ -23,6 +24,20 @@ final class Document {
         } catch (IOException e) {
             throw new UncheckedIOException(e);
         }
+    }
+
+    /** The lines of the public face, from the class on to the last method. */
+    static List<String> face() {
+        Matcher matcher = Pattern.compile("(?s)```java\n(.*?)\n}\n```").matcher(WORDS);
+        if (!matcher.find()) {
+            throw new IllegalArgumentException("no face");
+        }
+        return Arrays.stream(matcher.group(1).split("\n")).map(String::strip).toList();
+    }
+
+    /** The calls below a heading of the face, and the heading. */
+    static Matcher headings() {
+        return Pattern.compile("Ahead of the calls (.*) the interface says: (---- .*)\\.").matcher(WORDS);
     }
 
     /** What stands ahead of the promises. */
